@@ -15,6 +15,7 @@ final class Bench {
 
     final CodeChecker checker = new CodeChecker();
     private final Due due;
+    private int calls;
 
     /** All of it, but for memories: they are added by addMemory. */
     Bench(Due due) {
@@ -36,6 +37,15 @@ final class Bench {
         checker.add(4, FUNC, 0);
         checker.add(4, OUT, 0);
         checker.add(5, 0, 0);
+        calls = 91;
+    }
+
+    /** The document says nothing of an object's calls behind the 512th one, so no test may need them. */
+    private void count() {
+        calls++;
+        if (calls == 513) {
+            due.fail("a test makes more than 512 calls on one object");
+        }
     }
 
     private void makeTypes() {
@@ -70,11 +80,13 @@ final class Bench {
     }
 
     Bench body(int type) {
+        count();
         due.is("begin(" + type + ")", checker.begin(type), true);
         return this;
     }
 
     Bench constant(int type, int globals) {
+        count();
         due.is("constant(" + type + ", " + globals + ")", checker.constant(type, globals), true);
         return this;
     }
@@ -93,6 +105,7 @@ final class Bench {
 
     Bench labels(int... numbers) {
         for (int number : numbers) {
+            count();
             checker.label(number);
         }
         return this;
@@ -109,27 +122,33 @@ final class Bench {
     /** The fault that is due, and that the code is no more behind it. */
     void fault(int want, int instruction, int x, int y) {
         step(instruction, x, y, want);
+        count();
         due.is("state() behind fault " + want + " of " + instruction, checker.state(), 0);
+        count();
         due.is("look(0) behind fault " + want + " of " + instruction, checker.look(0), -1);
     }
 
     private Bench step(int instruction, int x, int y, int want) {
         String call = "step(" + instruction + ", " + x + ", " + y + ")";
+        count();
         due.is(call, checker.step(instruction, x, y), want);
         return this;
     }
 
     /** All operands, the first one first. */
     Bench operands(int... types) {
+        count();
         due.is("look(0)", checker.look(0), types.length);
         for (int i = 0; i < types.length; i++) {
             int k = types.length - 1 - i;
+            count();
             due.is("operand(" + k + ")", checker.operand(k), types[i]);
         }
         return this;
     }
 
     Bench looks(int what, long want) {
+        count();
         due.is("look(" + what + ")", checker.look(what), want);
         return this;
     }
