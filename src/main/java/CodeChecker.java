@@ -691,7 +691,6 @@ public final class CodeChecker {
             locals.clear();
             labelCount = 0;
             localCalls = 0;
-            visibleGlobals = 0;
             hasInstruction = false;
             isConstant = asConstant;
             progress = SOME_CODE;

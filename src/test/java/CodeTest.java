@@ -198,6 +198,13 @@ public final class CodeTest {
         due.is("operand(-1)", b.checker.operand(-1), -1);
         due.is("operand(MIN)", b.checker.operand(Integer.MIN_VALUE), -1);
         due.is("operand(MAX)", b.checker.operand(Integer.MAX_VALUE), -1);
+        Bench full = bench().body(0).push(111);
+        for (int i = 1; i < 200; i++) {
+            full.push(126);
+        }
+        due.is("operand(0) of 200", full.checker.operand(0), 126);
+        due.is("operand(199) of 200", full.checker.operand(199), 111);
+        due.is("operand(200) of 200", full.checker.operand(200), -1);
         b.right(2, -64);
         due.is("operand(0) below the height", b.checker.operand(0), 111);
         b.right(0, 0).right(27, 0).operands(127, 126, 125, 124, 112, 111, 0);

@@ -80,6 +80,24 @@ public final class FaultsTest {
         b.body(0).push(126, 127).right(4, 4).right(26, 0).push(127).right(5, 0).right(26, 0).push(127).right(11, 0);
         b.body(0).push(127, 127).right(4, 3).right(11, 0).operands(127);
         b.body(0).right(2, -1).push(127).right(11, 0).operands(127);
+        likeButForTheLast();
+    }
+
+    private static void likeButForTheLast() {
+        CodeChecker x = new CodeChecker();
+        x.type();
+        for (int i = 0; i < 12; i++) {
+            x.part(false, 127);
+            x.part(true, i == 11 ? 126 : 127);
+        }
+        x.begin(0);
+        for (int i = 0; i < 13; i++) {
+            x.step(65, 0, 0);
+        }
+        due.is("step(4, 0)", x.step(4, 0, 0), 0);
+        x.step(26, 0, 0);
+        x.step(66, 0, 0);
+        due.is("step(11), the last parts differ", x.step(11, 0, 0), 4);
     }
 
     private static void fault5() {

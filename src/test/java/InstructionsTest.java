@@ -299,6 +299,10 @@ public final class InstructionsTest {
         b.body(8).right(2, -2).right(2, -1).right(0, 0).push(126, 127).labels(0).fault(1, 14, 1, 0);
         b = bench();
         b.push(127, 126).right(3, 1).push(127).labels(0, 0).right(14, 0).operands().looks(3, 0);
+        int[] twelve = new int[12];
+        java.util.Arrays.fill(twelve, 127);
+        b.body(8).push(124).push(twelve).right(3, 7).right(2, 7).push(127).labels(0, 1).right(14, 1).operands(124);
+        b.looks(3, 0).right(0, 0).labels(0, 1, 1).right(14, 0).operands(124);
     }
 
     private static void returns() {
