@@ -856,7 +856,7 @@ public final class CodeChecker {
                     return things.tables.typeOf(y) == FUNCTION_REFERENCE ? RIGHT : WRONG_TABLE;
                 case 36:
                     return things.globals.isMarked(x) ? RIGHT : GLOBAL_IS_FIXED;
-                // Not 63: the document names FAULT 9 for 64 alone.
+                case 63:
                 case 64:
                 case 264:
                 case 266:

@@ -158,10 +158,6 @@ public final class FaultsTest {
     private static void fault9() {
         Bench b = bench();
         for (int n = 40; n <= 64; n++) {
-            if (n == 63) {
-                b.body(0).right(63, 0).operands(127);
-                continue;
-            }
             b.body(0).fault(9, n, 0, 0);
             b.body(0).right(0, 0).fault(9, n, 99, 0);
         }
@@ -171,7 +167,7 @@ public final class FaultsTest {
         }
         b.body(0).right(265, 0);
         b.addMemory();
-        b.right(63, 0).right(64, 0);
+        b.right(63, 0).operands(127).right(64, 0).operands(127);
     }
 
     private static void fault10() {

@@ -327,7 +327,7 @@ final class Model {
         List<Integer> tables = things.get(1);
         need(n != 17 || tables.get(y) == 112, 6);
         need(n != 36 || changing.get(x), 8);
-        boolean memory = n >= 40 && n <= 64 && n != 63 || n == 264 || n == 266 || n == 267;
+        boolean memory = n >= 40 && n <= 64 || n == 264 || n == 266 || n == 267;
         need(!memory || !things.get(2).isEmpty(), 9);
         if (n >= 40 && n <= 62) {
             need(Integer.toUnsignedLong(x) <= LARGEST_POWER[n - 40], 10);
