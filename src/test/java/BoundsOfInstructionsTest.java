@@ -426,9 +426,9 @@ public final class BoundsOfInstructionsTest {
         for (int t : new int[] {127, 126, 125, 124}) {
             probe(sentence).after(BODY).push(111, t, t, 127).right(27).holds(111, t);
             probe(sentence).after(BODY).right(0).push(t, 127).right(27).holds(t);
-            // UNKNOWN first, the known one last, and the other way round.
+            // UNKNOWN lies below the known one: it can't come to lie above it.
             probe(sentence).after(BODY).right(0).right(27).push(t, 127).right(27).holds(t);
-            probe(sentence).typeOf(t).begin(0).right(0).right(27).right(27).holds(0).push(t, 127).right(27).holds(t);
+            probe(sentence).after(BODY).push(t).right(2, -64).right(0).right(27).right(27).holds(t, 0);
         }
         Probe both = probe(sentence).after(BODY).right(0).right(27).holds(0).right(27).holds(0);
         both.push(127).right(27).holds(0).push(126, 127).right(27).holds(126);
